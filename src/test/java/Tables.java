@@ -17,7 +17,7 @@ final class Tables {
             x.place(player, 8, 0);
             x.place(player, 6, 1);
         }
-        // twice: the first man of a player may stand where the other one's are wanted
+        // twice: a man still on 6 may stand where the other one's are wanted
         for (int pass = 0; pass < 2; pass++) {
             put(x, 0, zero);
             put(x, 1, one);
@@ -37,6 +37,8 @@ final class Tables {
 
     private static void put(TablesMatch x, int player, int[] row) {
         for (int i = 0; i < row.length; i += 2) {
+            // one man less first: the fifteenth may still stand on 6
+            x.place(player, row[i], row[i + 1] - 1);
             x.place(player, row[i], row[i + 1]);
         }
         if (wantedAt(row, 6) == 0) {

@@ -418,7 +418,7 @@ public final class TablesMatch {
     /** The chances of races with two men a side, in parts of WHOLE. */
     private static final class Race {
         static final int LAST_RACE_POINT = 4;
-        /** 36^6: no race takes more than six rolls whose outcome counts, so all is whole. */
+        /** 36^6: no chance hangs on more than six rolls, so every one is a whole number of these. */
         private static final long WHOLE = 2176782336L;
         private static final int ROLLS = 36;
         private static final int PAIRS = 15;
@@ -426,8 +426,8 @@ public final class TablesMatch {
         /** By both sides' pairs: 0 while unknown, else the chance and one more. */
         private final long[] known = new long[PAIRS * PAIRS];
 
-        /** Each roll takes three pips or more of the sixteen at most, so this goes few rolls deep. */
-        long chanceToRoll(int a, int b, int c, int d) {
+        /** Each roll takes at least three of at most sixteen pips, or all: this goes few rolls deep. */
+        private long chanceToRoll(int a, int b, int c, int d) {
             if (c == OFF && d == OFF) {
                 return 0;
             }

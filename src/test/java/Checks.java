@@ -1,19 +1,15 @@
 /** Counts the answers that are not as due, and ends a test by them. */
 final class Checks {
-    private final String test;
+    private String sentence = "";
     private int asked = 0;
     private int wrong = 0;
-
-    Checks(String test) {
-        this.test = test;
-    }
 
     void due(String what, long got, long want) {
         asked++;
         if (got != want) {
             wrong++;
             if (wrong <= 40) {
-                System.out.println(test + ": " + what + " answered " + got + ", due is " + want);
+                System.out.println(sentence + what + " answered " + got + ", due is " + want);
             }
         }
     }
@@ -26,12 +22,25 @@ final class Checks {
         due(what, got, true);
     }
 
+    /** Runs what tests one sentence of the document; a test that throws or asks nothing has failed. */
+    void sentence(String words, Runnable run) {
+        sentence = "\"" + words + "\": ";
+        int before = asked;
+        try {
+            run.run();
+        } catch (RuntimeException thrown) {
+            due(thrown.toString(), true, false);
+        }
+        holds("something asked", asked > before);
+        sentence = "";
+    }
+
     boolean failed() {
         return wrong > 0;
     }
 
     void end() {
-        System.out.println(test + ": " + asked + " answers, " + wrong + " not as due");
+        System.out.println(asked + " answers, " + wrong + " not as due");
         if (wrong > 0 || asked == 0) {
             System.exit(1);
         }

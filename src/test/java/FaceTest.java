@@ -16,7 +16,7 @@ public final class FaceTest {
     };
 
     public static void main(String[] args) {
-        Checks checks = new Checks("FaceTest");
+        Checks checks = new Checks();
         Class<?> type = TablesMatch.class;
         checks.holds("public and final", Modifier.isPublic(type.getModifiers())
             && Modifier.isFinal(type.getModifiers()));

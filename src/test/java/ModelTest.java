@@ -2,7 +2,8 @@ import java.util.Random;
 
 /** Mixed runs of at most 512 calls, each answer compared with the plain model's. */
 public final class ModelTest {
-    private static final int CALLS = 512;
+    /** What one round of a run and the questions at its end may need stays within 512 calls. */
+    private static final int CALLS = 512 - 160;
     private static final int RUNS = 3000;
     private static final int[] ODD = {-1, 0, 7, 25, 26, Integer.MIN_VALUE, Integer.MAX_VALUE};
 
@@ -26,7 +27,7 @@ public final class ModelTest {
     }
 
     public static void main(String[] args) {
-        Checks checks = new Checks("ModelTest");
+        Checks checks = new Checks();
         int[] seen = new int[16];
         for (int run = 0; run < RUNS && !checks.failed(); run++) {
             new ModelTest(checks, run, seen).play(run % 3);
@@ -40,7 +41,7 @@ public final class ModelTest {
     }
 
     private void play(int kind) {
-        while (calls < CALLS - 80 && !checks.failed()) {
+        while (calls < CALLS && !checks.failed()) {
             if (model.phase == 0 && kind > 0) {
                 arrange(kind);
             }

@@ -1,19 +1,8 @@
 /** Each promise of the document by hand-written runs. */
-public final class PromiseTest {
-    private static final Checks CHECKS = new Checks("PromiseTest");
-    private static final int NONE = TablesMatch.NONE;
-    private static final int WRONG = TablesMatch.WRONG;
-    private static final int MIN = Integer.MIN_VALUE;
-    private static final int MAX = Integer.MAX_VALUE;
-    /** The other player's men, out of the way and partly off: a win then counts once. */
-    private static final int[] AWAY = {1, 2};
-
+public final class PromiseTest extends HandWritten {
     public static void main(String[] args) {
         newObject();
-        lengths();
         placeSets();
-        placeRefuses();
-        placeOnlyInOpening();
         rollInOpening();
         rollInRolling();
         rollWithoutMoves();
@@ -25,10 +14,8 @@ public final class PromiseTest {
         moveGreaterDie();
         moveWins();
         stepOrder();
-        stepRefuses();
         waysDueLeft();
         offers();
-        offerLimit();
         answers();
         phasesAndTurns();
         menAndPips();
@@ -41,18 +28,6 @@ public final class PromiseTest {
         CHECKS.end();
     }
 
-    private static void due(String what, long got, long want) {
-        CHECKS.due(what, got, want);
-    }
-
-    private static void due(String what, boolean got, boolean want) {
-        CHECKS.due(what, got, want);
-    }
-
-    private static int[] at(int... row) {
-        return row;
-    }
-
     // promise 1
 
     private static void newObject() {
@@ -63,38 +38,12 @@ public final class PromiseTest {
         due("1 cube", x.cube(), 1);
         due("1 owner", x.owner(), NONE);
         due("1 crawford", x.crawford(), false);
-        start("1 start", x);
-    }
-
-    private static void start(String what, TablesMatch x) {
-        int[] men = at(24, 2, 13, 5, 8, 3, 6, 5);
-        for (int player = 0; player < 2; player++) {
-            for (int point = 0; point <= 25; point++) {
-                due(what + " men " + point, x.men(player, point), Tables.wantedAt(men, point));
-            }
-            due(what + " pips", x.pips(player), 167);
-        }
-    }
-
-    private static void lengths() {
-        int[][] pairs = {{MIN, 1}, {-3, 1}, {0, 1}, {1, 1}, {2, 2}, {24, 24}, {25, 25}, {26, 25}, {MAX, 25}};
-        for (int[] pair : pairs) {
-            TablesMatch x = new TablesMatch(pair[0]);
-            int games = 0;
-            while (x.phase() != 4 && games < 30) {
-                winOne(x, 0);
-                games++;
-            }
-            due("1 length " + pair[0], games, pair[1]);
-            due("1 length points " + pair[0], x.points(0), pair[1]);
-        }
+        startsAnew("1 start", x);
     }
 
     /** The player wins a game that counts once, by his last man. */
     private static void winOne(TablesMatch x, int player) {
-        Tables.set(x, player == 0 ? at(1, 1) : AWAY, player == 0 ? AWAY : at(1, 1));
-        due("won " + player, x.roll(player == 0 ? 2 : 1, player == 0 ? 1 : 2), 1);
-        due("won once " + player, x.step(0), 10);
+        due("won once " + player, Tables.winOnce(x, player), 10);
     }
 
     // promise 2
@@ -123,46 +72,6 @@ public final class PromiseTest {
         due("2 last point is taken", x.place(1, 24, 1), false);
         due("2 last point", x.place(0, 24, 0), true);
         due("2 the other player's", x.place(1, 18, 4), true);
-    }
-
-    private static void placeRefuses() {
-        TablesMatch x = new TablesMatch(3);
-        due("2 player -1", x.place(-1, 6, 1), false);
-        due("2 player 2", x.place(2, 6, 1), false);
-        due("2 player MIN", x.place(MIN, 6, 1), false);
-        due("2 player MAX", x.place(MAX, 6, 1), false);
-        due("2 point 0", x.place(0, 0, 0), false);
-        due("2 point 25", x.place(0, 25, 0), false);
-        due("2 point -1", x.place(0, -1, 0), false);
-        due("2 point MIN", x.place(0, MIN, 0), false);
-        due("2 point MAX", x.place(0, MAX, 0), false);
-        due("2 n -1", x.place(0, 6, -1), false);
-        due("2 n 16", x.place(0, 6, 16), false);
-        due("2 n MIN", x.place(0, 6, MIN), false);
-        due("2 n MAX", x.place(0, 6, MAX), false);
-        due("2 too many", x.place(0, 6, 6), false);
-        start("2 refused", x);
-        x.place(0, 13, 4);
-        due("2 taken", x.place(0, 1, 1), false);
-        due("2 taken but none", x.place(0, 1, 0), true);
-        due("2 nothing taken", x.men(1, 24), 2);
-    }
-
-    private static void placeOnlyInOpening() {
-        TablesMatch x = new TablesMatch(3);
-        x.roll(3, 1);
-        due("2 moving", x.place(0, 6, 4), false);
-        Tables.playOut(x);
-        due("2 rolling", x.place(0, 13, 0), false);
-        x.offer();
-        due("2 answering", x.place(0, 13, 0), false);
-        x.answer(false);
-        due("2 second game", x.place(0, 13, 0), true);
-        due("2 second game off", x.men(0, 0), 5);
-        TablesMatch over = new TablesMatch(1);
-        winOne(over, 1);
-        due("2 over", over.place(1, 3, 1), false);
-        due("2 over off", over.men(1, 0), 15);
     }
 
     // promise 3
@@ -376,7 +285,7 @@ public final class PromiseTest {
             due("4 won " + i, x.move(1, 6), 10 * times[i]);
             due("4 points " + i, x.points(0), times[i]);
             due("4 other points " + i, x.points(1), 0);
-            start("4 new game " + i, x);
+            startsAnew("4 new game " + i, x);
             due("4 opening " + i, x.phase(), 0);
             due("4 nobody " + i, x.turn(), NONE);
         }
@@ -419,23 +328,6 @@ public final class PromiseTest {
         TablesMatch y = Tables.match(3, at(1, 1), at(6, 15));
         y.roll(2, 1);
         due("5 wins", y.step(0), 20);
-    }
-
-    private static void stepRefuses() {
-        TablesMatch x = new TablesMatch(3);
-        due("5 opening", x.step(0), NONE);
-        due("5 opening", x.step(-1), NONE);
-        x.roll(3, 1);
-        int[] bad = {-1, 7, 8, 100, MIN, MAX};
-        for (int k : bad) {
-            due("5 no " + k, x.step(k), WRONG);
-        }
-        due("5 nothing changed", x.due(), 2);
-        due("5 pips", x.pips(0), 167);
-        Tables.playOut(x);
-        due("5 rolling", x.step(0), NONE);
-        x.offer();
-        due("5 answering", x.step(0), NONE);
     }
 
     // promises 6, 7, 8
@@ -517,22 +409,6 @@ public final class PromiseTest {
         due("9 over", over.offer(), false);
     }
 
-    private static void offerLimit() {
-        TablesMatch x = new TablesMatch(25);
-        x.roll(2, 1);
-        Tables.playOut(x);
-        for (int shown = 1; shown < 64; shown *= 2) {
-            due("9 offer at " + shown, x.offer(), true);
-            due("10 take at " + shown, x.answer(true), 0);
-            due("15 cube", x.cube(), 2 * shown);
-            x.roll(2, 1);
-            Tables.playOut(x);
-        }
-        due("9 owner is on turn", x.owner(), x.turn());
-        due("9 at 64", x.offer(), false);
-        due("9 phase", x.phase(), 1);
-    }
-
     private static void answers() {
         TablesMatch x = new TablesMatch(5);
         due("10 opening", x.answer(true), NONE);
@@ -546,7 +422,7 @@ public final class PromiseTest {
         due("10 none for who drops", x.points(0), 0);
         due("10 next game", x.phase(), 0);
         due("10 opening again", x.answer(true), NONE);
-        start("10 new game", x);
+        startsAnew("10 new game", x);
         x.roll(2, 1);
         Tables.playOut(x);
         x.offer();
@@ -774,7 +650,7 @@ public final class PromiseTest {
             due("19 d " + point, x.chance(0, 0, 0, point), NONE);
         }
         due("19 changes nothing", x.phase(), 0);
-        start("19 changes nothing", x);
+        startsAnew("19 changes nothing", x);
         x.roll(2, 1);
         due("19 in any phase", x.chance(4, 3, 2, 1), 1027924992L);
         due("19 moving on", x.due(), 2);
